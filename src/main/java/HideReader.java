@@ -332,8 +332,8 @@ public final class HideReader {
             return NONE;
         }
         int quiet = 100 - told.night;
-        int common = commonWithHundred(quiet);
-        int base = (part == 0 ? quiet : 100) / common;
+        // Reduced before they are raised, the powers are in lowest terms and within an int.
+        int base = withoutCommon(part == 0 ? quiet : 100, quiet);
         int power = 1;
         for (int i = 0; i < n; i++) {
             power *= base;
@@ -445,14 +445,14 @@ public final class HideReader {
         return part == 0 || part == 1;
     }
 
-    /** Reducing the fraction before it is raised keeps the powers in lowest terms and within an int. */
-    private static int commonWithHundred(int number) {
+    /** A number, less the greatest divisor that the quiet nights have in common with the hundred. */
+    private static int withoutCommon(int number, int quiet) {
         for (int d = 100; d > 1; d--) {
-            if (number % d == 0 && 100 % d == 0) {
-                return d;
+            if (quiet % d == 0 && 100 % d == 0) {
+                return number / d;
             }
         }
-        return 1;
+        return number;
     }
 
     /** The bytes that were fed, and the token at hand while they are read. */
@@ -495,6 +495,7 @@ public final class HideReader {
         private static final String SIGNS = ";()<>=+-*/%";
 
         private final byte[] bytes = new byte[MOST_BYTES];
+        private final long[] wordNames = new long[WORD_COUNT];
         private int length = 0;
         private int next = 0;
         private int kind = END;
@@ -503,6 +504,14 @@ public final class HideReader {
         private long name = 0;
         private int faultKind = 0;
         private int faultPlace = NONE;
+
+        Tape() {
+            for (int i = 0; i < WORD_COUNT * WORD_WIDTH; i++) {
+                char letter = WORDS.charAt(i);
+                int word = i / WORD_WIDTH;
+                wordNames[word] = letter == ' ' ? wordNames[word] : withLetter(wordNames[word], letter);
+            }
+        }
 
         int length() {
             return length;
@@ -591,8 +600,7 @@ public final class HideReader {
             int letters = 0;
             name = 0;
             for (int i = start; i < length && isLetter(bytes[i]); i++) {
-                // Words of eight letters fill forty bits; longer ones are no tokens, so what overflows is of no account.
-                name = name * 32 + (bytes[i] - 'a' + 1);
+                name = withLetter(name, bytes[i]);
                 letters++;
             }
             if (letters > WORD_WIDTH) {
@@ -602,22 +610,13 @@ public final class HideReader {
             next = start + letters;
             kind = NAME;
             for (int word = 0; word < WORD_COUNT; word++) {
-                if (isWord(word, start, letters)) {
-                    kind = WORD + word;
-                    return;
-                }
+                kind = wordNames[word] == name ? WORD + word : kind;
             }
         }
 
-        private boolean isWord(int word, int start, int letters) {
-            for (int i = 0; i < WORD_WIDTH; i++) {
-                int here = start + i;
-                char got = i < letters && here < length ? (char) (bytes[here] & 255) : ' ';
-                if (got != WORDS.charAt(word * WORD_WIDTH + i)) {
-                    return false;
-                }
-            }
-            return true;
+        /** A word as one number, five bits a letter: unlike for unlike words of up to eight letters, and longer ones are no tokens. */
+        private static long withLetter(long word, int letter) {
+            return word * 32 + (letter - 'a' + 1);
         }
 
         private void scanNumber(int start) {
@@ -675,24 +674,20 @@ public final class HideReader {
             tape.rewind();
             // Each line takes a byte at least, or is a fault.
             for (int i = 0; i <= MOST_BYTES && tape.kind() != Tape.END && tape.kind() != Tape.STOP; i++) {
-                readLine();
+                switch (tape.kind()) {
+                    case Tape.TURNS: readTurns(); break;
+                    case Tape.MIRROR: startOnce(); draft.mirror = true; break;
+                    case Tape.HERD: readHerd(); break;
+                    case Tape.IRON: readIron(); break;
+                    case Tape.BEAST: readBeast(); break;
+                    case Tape.SHOWS: startOnce(); readEither(0); break;
+                    case Tape.NIGHT: startOnce(); draft.night = takeNumber(100); break;
+                    case Tape.DRAW: startOnce(); draft.draw = takeNumber(999); break;
+                    default: tape.fail(Tape.MISPLACED);
+                }
                 tape.expect(';');
             }
             return tape.faultKind() == 0;
-        }
-
-        private void readLine() {
-            switch (tape.kind()) {
-                case Tape.TURNS: readTurns(); break;
-                case Tape.MIRROR: startOnce(); draft.mirror = true; break;
-                case Tape.HERD: readHerd(); break;
-                case Tape.IRON: readIron(); break;
-                case Tape.BEAST: readBeast(); break;
-                case Tape.SHOWS: startOnce(); readEither(0); break;
-                case Tape.NIGHT: startOnce(); draft.night = takeNumber(100); break;
-                case Tape.DRAW: startOnce(); draft.draw = takeNumber(999); break;
-                default: tape.fail(Tape.MISPLACED);
-            }
         }
 
         private void startOnce() {
@@ -808,22 +803,17 @@ public final class HideReader {
 
         private int takeStrokes() {
             tape.expect(Tape.STROKES_WORD);
-            int mark = takeStroke(0);
-            // A stroke behind the twelfth is one told already, or none.
-            for (int i = 0; i < STROKES && tape.kind() == Tape.NUMBER; i++) {
-                mark |= takeStroke(mark);
+            int mark = 0;
+            // One stroke at least; what comes behind the twelfth is told already, or no stroke.
+            for (int i = 0; i <= STROKES && (i == 0 || tape.kind() == Tape.NUMBER); i++) {
+                int bit = tape.number() < STROKES ? 1 << tape.number() : 0;
+                if (tape.kind() == Tape.NUMBER && (mark & bit) != 0) {
+                    tape.fail(Tape.TOLD_ALREADY);
+                }
+                takeNumber(STROKES - 1);
+                mark |= bit;
             }
             return mark;
-        }
-
-        private int takeStroke(int before) {
-            // What is no stroke has no bit.
-            int bit = 1 << Math.min(tape.number(), STROKES) & FULL_MARK;
-            if (tape.kind() == Tape.NUMBER && (before & bit) != 0) {
-                tape.fail(Tape.TOLD_ALREADY);
-            }
-            takeNumber(STROKES - 1);
-            return bit;
         }
 
         private void readEither(int within) {
@@ -1079,21 +1069,19 @@ public final class HideReader {
 
         Lattice() {
             for (int way = 0; way < MOST_WAYS; way++) {
-                for (int half = 0; half < HALF_MARKS; half++) {
-                    lowHalves[way * HALF_MARKS + half] = movedByStrokes(half, way);
-                    highHalves[way * HALF_MARKS + half] = movedByStrokes(half << HALF_STROKES, way);
+                for (int stroke = 0; stroke < HALF_STROKES; stroke++) {
+                    enter(lowHalves, way, stroke, movedStroke(stroke, way));
+                    enter(highHalves, way, stroke, movedStroke(stroke + HALF_STROKES, way));
                 }
             }
         }
 
-        private static int movedByStrokes(int mark, int way) {
-            int moved = 0;
-            for (int stroke = 0; stroke < STROKES; stroke++) {
-                if ((mark & 1 << stroke) != 0) {
-                    moved |= 1 << movedStroke(stroke, way);
-                }
+        /** Enters the halves whose highest stroke is this one, each by the lesser half that is left without it. */
+        private static void enter(int[] halves, int way, int stroke, int moved) {
+            int row = way * HALF_MARKS;
+            for (int half = 0; half < 1 << stroke; half++) {
+                halves[row + (1 << stroke) + half] = halves[row + half] | 1 << moved;
             }
-            return moved;
         }
 
         /** A stroke is known by its middle, told in half steps (0 to 4): across where y is even, down where it is odd. */
@@ -1189,7 +1177,7 @@ public final class HideReader {
     /** Irons in their placements, and by how few of them a mark is made into another one. */
     private static final class Smith {
         // More burnings than any mark needs, whose strokes are only twelve.
-        private static final byte TOO_MANY = 100;
+        private static final int TOO_MANY = 100;
 
         private final Lattice lattice;
         private final int[] placedIrons = new int[MOST_IRONS * MOST_WAYS];
@@ -1226,12 +1214,12 @@ public final class HideReader {
 
         /** By how few burnings, 4 at most, a mark is made into the other one; NONE if it can't be. */
         int fewest(int mark, int other) {
-            aimAt(other);
             int fewest = TOO_MANY;
             // To turn the mark is as good as to turn the aim: placements form a group, and irons go along with it.
             for (int p = 0; p < lattice.placements(); p++) {
                 int moved = lattice.moved(mark, p);
                 if ((moved & ~other) == 0) {
+                    aimAt(other);
                     fewest = Math.min(fewest, costs[other & ~moved]);
                 }
             }
