@@ -1253,7 +1253,7 @@ public final class HideReader {
             int usable = 0;
             for (int iron = 0; iron < irons; iron++) {
                 for (int p = 0; p < lattice.placements(); p++) {
-                    int placedIron = placedIron(iron, p);
+                    int placedIron = placedIrons[iron * MOST_WAYS + p];
                     if ((placedIron & ~mark) == 0) {
                         within[usable] = placedIron;
                         usable++;

@@ -15,6 +15,7 @@ public final class PromisesTest {
         tellings();
         placements();
         seasons();
+        lastSeasons();
         burnings();
         salesAndCleaning();
         undoAndRedo();
@@ -187,6 +188,28 @@ public final class PromisesTest {
         due("no nights", quiet.season(), 0);
         due("the seed goes on without nights", quiet.about(5), 334);
         due("untouched by nights", quiet.beast(0, 0), 1);
+    }
+
+    /** Beyond 512 calls nothing is promised, but the bounds of a season can be seen only there. */
+    private static void lastSeasons() {
+        HideReader r = Checks.told("herd a strokes 0;beast b of a born 99;draw 1;");
+        for (int i = 0; i < 900; i++) {
+            r.season();
+        }
+        due("age of 999", r.age(0, 0), 999);
+        due("will(60) at the oldest", Checks.told("herd a strokes 0;beast b of a born 99;shows age < 160;").will(60), 1);
+        r.season();
+        due("age of no more", r.age(0, 0), 999);
+        for (int i = 901; i < 999; i++) {
+            due("season()", r.season(), 0);
+        }
+        due("the last season", r.about(4), 999);
+        int seed = r.about(5);
+        due("season() behind 999", r.season(), -1);
+        due("nothing was done", r.about(5), seed);
+        due("nothing was done", r.about(4), 999);
+        CHECKS.due("undo", r.undo(), true);
+        due("season() again", r.season(), 0);
     }
 
     private static void burnings() {
@@ -461,12 +484,18 @@ public final class PromisesTest {
         due("tempt(0, 0), the fewest", far.tempt(0, 0), 2);
         far.sell(0, 2);
         due("tempt(0, 1), by two", far.tempt(0, 1), 2);
+        HideReader most = Checks.told("herd a strokes 0;herd b strokes 0 1 2 3 4;iron i strokes 1;iron j strokes 2;iron k strokes 3;iron l strokes 4;beast x of a;");
+        due("tempt(0, 0), by four", most.tempt(0, 0), 1);
+        due("tempt(0, 1), by four", most.tempt(0, 1), 4);
+        most.forge(0, 1);
+        lies(most, "forge by four", 0, 0, 1, 0, 2, 0, 3, 0);
     }
 
     private static void irons() {
         due("useful()", Checks.told(PLAIN).useful(), 1 | 4);
         due("useful(): none by itself", Checks.told("herd a strokes 0;herd b strokes 0 1 2;iron i strokes 1;iron j strokes 2;iron k strokes 1 2;").useful(), 4);
         due("useful(): not what is there", Checks.told("herd a strokes 0;herd b strokes 1 0;herd c strokes 0 1;iron i strokes 0;").useful(), 0);
+        due("useful(): into the first", Checks.told("herd b strokes 0 1;herd a strokes 0;iron i strokes 1;").useful(), 1);
         due("useful(): twins", Checks.told("mirror;herd a strokes 0;herd b strokes 1;iron i strokes 0;").useful(), 0);
         due("useful(): turned", Checks.told("turns 4;herd a strokes 0;herd b strokes 0 5;iron i strokes 2;iron j strokes 8;").useful(), 2);
     }
@@ -492,6 +521,10 @@ public final class PromisesTest {
         due("shared(0, 5)", r.shared(0, 5), -1);
         due("shared(-1, 0)", r.shared(-1, 0), -1);
         due("shared(0, -1)", r.shared(0, -1), -1);
+        HideReader far = Checks.told("herd a strokes 0;");
+        due("nearest(4095, 1), far", far.nearest(4095, 1), 11);
+        due("nearest(4094, 0), as far as can be", far.nearest(4094, 0), 0);
+        due("nearest(4094, 1), as far as can be", far.nearest(4094, 1), 12);
         HideReader turned = Checks.told("turns 4;herd a strokes 0 2;herd b strokes 5 3 8;");
         due("turned: nearest(40, 0)", turned.nearest(40, 0), 0);
         due("turned: nearest(40, 1)", turned.nearest(40, 1), 0);

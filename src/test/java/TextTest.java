@@ -70,7 +70,8 @@ public final class TextTest {
         fine("mirror ; turns 4 ; night 0 ; draw 0 ;");
         fine("herd line strokes 0 1 2 3 4 5 6 7 8 9 10 11;");
         fine("herd e strokes 0011;iron e strokes 0;beast e of e;beast one of e born 99;");
-        fine("herd abcdefgh strokes 5;herd abcdefgi strokes 5;");
+        fine("herd abcdefgh strokes 5;herd abcdefgi strokes 5;herd bbcdefgh strokes 5;");
+        fine("herd ab strokes 5;herd ba strokes 5;herd aab strokes 5;herd b strokes 5;herd a strokes 5;");
         fine(times(1, "herd a strokes 0;herd b strokes 0;herd c strokes 0;herd d strokes 0;herd e strokes 0;herd f strokes 0;herd g strokes 0;herd h strokes 0;"));
         fine("shows not not not not not not not age;");
         fine("shows (((((((age)))))));");
