@@ -48,12 +48,7 @@ public final class PromisesTest {
     }
 
     private static void lies(HideReader r, String what, int... row) {
-        due(what + ": how many lie there", r.about(12), row.length);
-        for (int i = 0; i < row.length; i++) {
-            due(what + ": lies(" + i + ")", r.lies(i), row[i]);
-        }
-        due(what + ": lies behind", r.lies(row.length), -1);
-        due(what + ": lies(-1)", r.lies(-1), -1);
+        CHECKS.lies(r, what, row);
     }
 
     private static void newObject() {

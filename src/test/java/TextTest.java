@@ -18,15 +18,11 @@ public final class TextTest {
     }
 
     private static void fault(String text, int kind, int place) {
-        HideReader reader = new HideReader();
-        Checks.feed(reader, text);
-        CHECKS.due("valley() of " + text, reader.valley(), kind == 0 ? reader.about(0) : -1);
-        CHECKS.due("fault(0) of " + text, reader.fault(0), kind);
-        CHECKS.due("fault(1) of " + text, reader.fault(1), place);
+        CHECKS.fault(text, kind, place);
     }
 
     private static void fine(String text) {
-        fault(text, 0, -1);
+        CHECKS.fine(text);
     }
 
     private static String times(int n, String part) {
