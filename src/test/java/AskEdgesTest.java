@@ -81,12 +81,11 @@ public final class AskEdgesTest {
         due("an iron too wide", wide.make(1, 1 | 2 | 4), -1);
         due("irons over one another", wide.make(1, 31), 2);
         due("an iron over what is there", wide.make(3, 15), 1);
-        due("a narrower aim behind a wider one", wide.make(0, 14), 1);
         due("a narrower aim behind a wider one", wide.make(0, 6), -1);
         due("an aim for none", wide.make(0, 1), -1);
+        due("an aim of one iron", wide.make(0, 14), 1);
         Checks.feed(wide, "iron w strokes 1;");
         wide.valley();
-        due("the same aim by other irons", wide.make(0, 1), -1);
         due("the same aim by other irons", wide.make(0, 14), -1);
         due("the new iron", wide.make(0, 2), 1);
         HideReader all = Checks.told("iron q strokes 0 1 2;iron r strokes 3 4 5;iron s strokes 6 7 8;iron t strokes 9 10 11;iron u strokes 0 1 2 3 4 5;");
@@ -177,6 +176,11 @@ public final class AskEdgesTest {
         HideReader second = Checks.told("turns 4;mirror;herd a strokes 0;herd b strokes 0 2;iron i strokes 0;iron j strokes 2;beast x of a;");
         due("the second iron as it is", second.forge(0, 1), 1);
         lies(second, "the second iron as it is", 1, 0);
+        HideReader fewer = Checks.told("turns 4;mirror;iron i strokes 2;");
+        Checks.feed(fewer, "herd a strokes 0;herd b strokes 0 7;iron i strokes 5;iron j strokes 7;beast x of a;");
+        fewer.valley();
+        due("no placement of the valley before", fewer.forge(0, 1), 1);
+        lies(fewer, "no placement of the valley before", 1, 0);
         HideReader last = Checks.told("turns 4;mirror;herd a strokes 4;herd b strokes 4 6;iron i strokes 0;beast x of a;");
         // Stroke 0 is 0, 8, 5, 9 by its turns, and mirrored 1, 11, 4, 6; 4 and 11 are ONE with 4 and 6.
         due("to any placement of the brand", last.forge(0, 1), 1);

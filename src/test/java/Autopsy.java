@@ -22,6 +22,43 @@ final class Autopsy {
         return a.out.toString();
     }
 
+    /** What is asked by what is now, of the first, the last and one behind it; no state changes but what lies there. */
+    static String questions(HideReader reader) {
+        Autopsy a = new Autopsy(reader);
+        a.ofAll();
+        for (int i : new int[] {0, 1, reader.about(2) - 1, reader.about(2)}) {
+            a.ofBeast(i);
+        }
+        for (int i : new int[] {0, 1, reader.about(0) - 1, reader.about(0)}) {
+            a.ofHerd(i);
+        }
+        for (int mark : new int[] {0, 1, 5, 65, 1638, 4095}) {
+            a.ofMark(mark);
+        }
+        return a.out.toString();
+    }
+
+    private void ofAll() {
+        put("chain", reader.chain(), reader.lies(0), reader.lies(1), reader.lies(2));
+        put("brands", reader.lowest(), reader.highest(), reader.fresh(), reader.safe(), reader.twins(), reader.closed());
+        put("king", reader.king(0), reader.king(1), reader.useful());
+        put("strokes", reader.untouched(), reader.tells(), reader.strays(), reader.will(3), reader.law(3));
+        put("odds", reader.odds(3, 0), reader.odds(3, 1));
+        put("rows", reader.rows(0), reader.sure(1, 0), reader.ask(0, 0), reader.ask(1, 0));
+    }
+
+    private void ofBeast(int b) {
+        put("beast", reader.beast(b, 1), reader.origins(b), reader.read(b), reader.tempt(b, 0), reader.tempt(b, 1), reader.fades(b), reader.oldest(b));
+    }
+
+    private void ofHerd(int h) {
+        put("herd", reader.claim(h), reader.shared(h, 0), reader.forge(0, h), reader.lies(0), reader.lies(1), reader.raid(0, h), reader.lies(0), reader.lies(1));
+    }
+
+    private void ofMark(int mark) {
+        put("mark", reader.faces(mark), reader.norm(mark), reader.under(1, mark), reader.make(1, mark), reader.make(0, mark), reader.nearest(mark, 0), reader.nearest(mark, 1));
+    }
+
     private void put(String what, long... answers) {
         out.append(' ').append(what);
         for (long answer : answers) {

@@ -18,6 +18,7 @@ public final class FormulaEdgesTest {
         notTold();
         facts();
         shownByEachStroke();
+        longestFormulas();
         CHECKS.close("FormulaEdgesTest");
     }
 
@@ -304,5 +305,20 @@ public final class FormulaEdgesTest {
         }
         due("stroke not on the HIDE", shows("stroke = 1").beast(0, 1), 0);
         due("scars of a full HIDE", Checks.told(all + "shows scars = 12;").beast(0, 1), 4095);
+    }
+
+    /** As many units and nots as can be, and as much that waits for what is in brackets: the innermost and the last still count. */
+    private static void longestFormulas() {
+        String nots = "not not not not not not not ";
+        holds((nots + "1 or ").repeat(29) + nots + "0");
+        fails((nots + "1 or ").repeat(29) + nots + "1");
+        holds((nots + "0 and ").repeat(29) + nots + "0");
+        fails((nots + "0 and ").repeat(29) + nots + "1");
+        String open = "0 or 1 and 1<1+1*(";
+        holds(open.repeat(4) + "0 or 1 and 1<1+1*2" + "))))");
+        fails(open.repeat(4) + "0 or 1 and 1<1+1*0" + "))))");
+        holds("1 - (1 - (1 - (1 - (1 - (1 - (1 - 0))))))");
+        fails("1 - (1 - (1 - (1 - (1 - (1 - (1 - (1 - 0)))))))");
+        due("units of the longest", shows((nots + "1 or ").repeat(29) + nots + "0").about(11), 30);
     }
 }
