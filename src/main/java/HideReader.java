@@ -506,7 +506,7 @@ public final class HideReader {
         private int faultPlace = NONE;
 
         Tape() {
-            for (int i = 0; i < WORD_COUNT * WORD_WIDTH; i++) {
+            for (int i = 0; i < WORD_COUNT * WORD_WIDTH && i < WORDS.length(); i++) {
                 char letter = WORDS.charAt(i);
                 int word = i / WORD_WIDTH;
                 wordNames[word] = letter == ' ' ? wordNames[word] : withLetter(wordNames[word], letter);
