@@ -281,6 +281,12 @@ public final class AskEdgesTest {
         due("fresh(), the least of one", Checks.told("herd a strokes 0;").fresh(), 2);
         due("fresh(), not the first strokes", Checks.told("herd a strokes 0 1 2;").fresh(), 8);
         due("fresh(), a brand of one UNDER all of it", Checks.told("herd a strokes 0;herd b strokes 1;herd c strokes 2 3 4 5 6 7 8 9 10 11;").fresh(), -1);
+        // Each brand lacks one stroke, or its mirror, but none lacks 7, which the mirror leaves where it is.
+        StringBuilder lacking = new StringBuilder("mirror;");
+        for (int stroke : new int[] {0, 2, 4, 6, 9, 10}) {
+            lacking.append("herd h").append((char) ('a' + stroke)).append(" strokes ").append((ALL_STROKES + " ").replaceFirst("\\b" + stroke + " ", "").trim()).append(";");
+        }
+        due("fresh() of eleven strokes", Checks.told(lacking.toString()).fresh(), 4095 - 128);
         due("fresh(), turned", Checks.told("turns 4;mirror;herd a strokes 11;").fresh(), 4);
         due("fresh(), turned, none", Checks.told("turns 4;mirror;herd a strokes 11;herd b strokes 10;").fresh(), -1);
         HideReader again = Checks.told("turns 4;mirror;herd a strokes 0;herd b strokes 2;");
