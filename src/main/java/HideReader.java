@@ -1311,8 +1311,6 @@ public final class HideReader {
         void startAs(Valley told) {
             seasons = 0;
             seed = told.draw;
-            // No hide is left from the valley before.
-            Arrays.fill(hides, 0);
             for (int beast = 0; beast < told.beasts; beast++) {
                 int home = told.homes[beast];
                 owners[beast] = home;

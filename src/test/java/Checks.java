@@ -56,6 +56,10 @@ final class Checks {
         fault(text, 0, -1);
     }
 
+    int asked() {
+        return asked;
+    }
+
     /** Ends the test, with exit code 1 if an answer was wrong. */
     void close(String name) {
         System.out.println(name + ": " + asked + " answers, " + wrong + " not as due");

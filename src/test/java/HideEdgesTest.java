@@ -471,6 +471,11 @@ public final class HideEdgesTest {
         due("AGE of what came", r.age(0, 1), 1);
         due("oldest", r.oldest(0), 999);
         due("will(60) stays at 999", r.will(60), 1);
+        HideReader beyond = Checks.told("herd a strokes 0;beast x of a born 99;shows age > 999;");
+        for (int i = 0; i < 880; i++) {
+            beyond.season();
+        }
+        due("will(60) is not beyond 999", beyond.will(60), 0);
     }
 
     /** Promises 53, 54: BOX 0 .. 2. */
